@@ -44,6 +44,8 @@ public final class GivenNumbersTest {
         Bench.due("real(-0.0)", t.x.real(1, -0.0), true);
         Bench.due("no -0.0", 1.0 / t.x.value(1), Double.POSITIVE_INFINITY);
         Bench.due("shown", t.shown(1), "0.0");
+        Bench.due("added", t.x.whole(2, 5) && t.x.real(3, 0.0) && t.x.combine(0, 2, 3, 4) == 2, true);
+        Bench.due("5 and 0.0", t.held(4), "2 5.0");
     }
 
     private static void noReals() {

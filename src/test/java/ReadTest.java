@@ -40,6 +40,8 @@ public final class ReadTest {
         read("0b101", "0 5");
         read("-0b1_1", "0 -3");
         read("0x0", "0 0");
+        read("0x9aAfF", "0 633599");
+        read("0b0", "0 0");
         read("0xe3", "0 227");
         read("0xb1", "0 177");
         read(MOST, "0 " + MOST);

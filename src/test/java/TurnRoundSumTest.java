@@ -162,9 +162,15 @@ public final class TurnRoundSumTest {
         sum(Bench.IAE, -1, "1");
         sum(Bench.IAE, 3, "1", "1/2");
         sum(Bench.IAE, 3, MOST, "2/1");
+        sum(Bench.IAE, 3, "1/2", "1");
+        sum(Bench.IAE, 192, "1", "", "", "", "", "", "1", "1/2");
         Bench t = new Bench().with(0, "1");
         Bench.due("no register to", Bench.outcome(() -> t.x.sum(1, 8)), Bench.IAE);
         Bench.due("no register to", Bench.outcome(() -> t.x.sum(1, -1)), Bench.IAE);
         Bench.due("in place", t.x.sum(1, 0) + t.held(0), "22 1.0");
+        Bench.due("a second sum", t.x.sum(1, 0) + t.held(0), "22 1.0");
+        t.x.whole(1, -3);
+        Bench.due("one below 0", t.x.sum(2, 2) + t.held(2), "22 -3.0");
+        Bench.due("a sum behind it", t.x.sum(1, 2) + t.held(2), "22 1.0");
     }
 }
