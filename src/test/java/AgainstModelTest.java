@@ -2,7 +2,7 @@ import java.util.function.LongSupplier;
 
 /** All promises at once: long runs of calls, each compared with the model's answer. */
 public final class AgainstModelTest {
-    private static final int RUNS = 250;
+    private static final int RUNS = 600;
     private static final int CALLS = 512;
 
     private final NumberTower x = new NumberTower();

@@ -130,6 +130,8 @@ public final class CombineTest {
         op(6, MOST, "1", "0 " + MOST);
         op(6, "-1", "40", "0 1");
         op(6, "2", "41", Bench.IAE);
+        op(6, "2", "1073741829", Bench.IAE);
+        op(6, "2", "1152921504606846981", Bench.IAE);
         op(6, "2", "-1", Bench.IAE);
         op(6, "2", "2.0", Bench.IAE);
         op(6, "2", "2/1", Bench.IAE);
@@ -173,6 +175,7 @@ public final class CombineTest {
         op(10, "5", "0", "0 5");
         op(10, "-5", "0", "0 -5");
         op(10, "1", "121", Bench.IAE);
+        op(10, "1", "-1073741829", Bench.IAE);
         op(10, "1", "-121", Bench.IAE);
         op(10, "1", "1.0", Bench.IAE);
         op(10, "1.0", "1", Bench.IAE);

@@ -58,6 +58,7 @@ public final class PowerTest {
         power("2", "1000", "7", Bench.IAE);
         power("2", "-1000", "7", Bench.IAE);
         power("2", MOST, "7", Bench.IAE);
+        power("2", "1073741829", "7", Bench.IAE);
         power("2", "3", "0", Bench.IAE);
         power("2", "3", "-7", Bench.IAE);
         power("2.0", "3", "7", Bench.IAE);
