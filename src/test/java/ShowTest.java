@@ -64,8 +64,8 @@ public final class ShowTest {
     /** No shorter text reads as the same REAL, and what is shown does. */
     private static void agreesWithRoundTrips() {
         long seed = 12345;
-        Bench t = new Bench();
         for (int i = 0; i < 2000; i++) {
+            Bench t = new Bench();
             seed = seed * 6364136223846793005L + 1442695040888963407L;
             int exponent = (int) (seed >>> 33) % 90;
             long bits = seed >>> 11 & (1L << 52) - 1;

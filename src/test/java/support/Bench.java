@@ -5,6 +5,9 @@ final class Bench {
     static final String IAE = "throws.IllegalArgumentException";
     static final String AE = "throws.ArithmeticException";
     static final String ISE = "throws.IllegalStateException";
+    /** The greatest amount of a WHOLE, 2^120 - 1, and the first that is BEYOND. */
+    static final String MOST = "1329227995784915872903807060280344575";
+    static final String PAST = "1329227995784915872903807060280344576";
 
     private static int checked = 0;
     private static int wrong = 0;
@@ -100,8 +103,12 @@ final class Bench {
         return kind == NumberTower.NONE ? "none" : kind + " " + shown(register);
     }
 
-    /** Reads a number that is one. */
+    /** Reads a number that is one; a REAL may also be given as Java writes it in hex, "0x1.8p-3". */
     Bench with(int register, String text) {
+        if (isJavaHex(text)) {
+            due("real of " + text, x.real(register, Double.parseDouble(text)), true);
+            return this;
+        }
         String kind = read(register, text);
         if (kind.startsWith("throws.")) {
             due("read of " + text, kind, "a kind");
@@ -109,15 +116,74 @@ final class Bench {
         return this;
     }
 
-    /** What comes of an operation on two numbers: the answered kind and the worth, or the exception. */
-    static String combined(int op, String a, String b) {
-        Bench t = new Bench().with(1, a).with(2, b);
-        String answer = outcome(() -> t.x.combine(op, 1, 2, 3));
-        if (answer.startsWith("throws.")) {
-            due("register 3 after " + answer, t.held(3), "none");
-            return answer;
+    private static boolean isJavaHex(String text) {
+        return text.indexOf('p') >= 0;
+    }
+
+    /** Checks a register's kind and worth; of a REAL also "2 0x1.8p-3", bit by bit. */
+    void dueHeld(String call, int register, String want) {
+        if (want.startsWith("2 ") && isJavaHex(want)) {
+            String exactly = Double.toHexString(Double.parseDouble(want.substring(2)));
+            due(call, x.kind(register) + " " + Double.toHexString(x.value(register)), "2 " + exactly);
+        } else {
+            due(call, held(register), want);
         }
-        due("kind after operation " + op, answer, t.x.kind(3));
-        return t.held(3);
+    }
+
+    /** Checks a call that puts a number in register 3: its exception, or its kind and what it puts there. */
+    void duePut(String call, LongSupplier put, String want) {
+        String answer = outcome(put);
+        if (answer.startsWith("throws.")) {
+            due(call, answer, want);
+            due(call + ": register 3", held(3), "none");
+        } else {
+            due(call + ": the kind", answer, x.kind(3));
+            dueHeld(call, 3, want);
+        }
+    }
+
+    /** Checks what comes of an operation on two numbers. */
+    static void dueCombined(int op, String a, String b, String want) {
+        Bench t = new Bench().with(1, a).with(2, b);
+        t.duePut(a + " op " + op + " " + b, () -> t.x.combine(op, 1, 2, 3), want);
+    }
+
+    /** Checks what comes of reading a text. */
+    static void dueRead(String text, String want) {
+        Bench t = new Bench();
+        t.line(text);
+        t.duePut("read of '" + text + "'", () -> t.x.read(3), want);
+        due("the line is empty after '" + text + "'", outcome(() -> t.x.read(4)), IAE);
+    }
+
+    /** Checks what comes of a turn. */
+    static void dueTurned(int what, String a, String want) {
+        Bench t = new Bench().with(1, a);
+        t.duePut("turn " + what + " of " + a, () -> t.x.turn(what, 1, 3), want);
+    }
+
+    /** Checks what comes of rounding. */
+    static void dueRounded(String a, int n, String want) {
+        Bench t = new Bench().with(1, a);
+        t.duePut(a + " rounded to " + n, () -> t.x.round(1, n, 3), want);
+    }
+
+    /** Checks the sum of numbers in the registers from 4 on. */
+    static void dueSum(String want, String... numbers) {
+        Bench t = new Bench();
+        for (int i = 0; i < numbers.length; i++) {
+            t.with(4 + i, numbers[i]);
+        }
+        t.duePut("sum of " + String.join(", ", numbers), () -> t.x.sum(240, 3), want);
+    }
+
+    /** Checks what show writes of a number. */
+    static void dueShown(String number, String want) {
+        due("show of " + number, new Bench().with(0, number).shown(0), want);
+    }
+
+    /** Checks what format writes of a number. */
+    static void dueFormatted(String number, String spec, String want) {
+        due(number + " by '" + spec + "'", new Bench().with(0, number).formatted(0, spec), want);
     }
 }
